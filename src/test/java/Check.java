@@ -1,0 +1,54 @@
+/** Counts the answers that are not as due, and ends a test's run by them. */
+final class Check {
+    private static int made = 0;
+    private static int wrong = 0;
+
+    interface Call {
+        long answer();
+    }
+
+    private Check() {
+    }
+
+    static void due(String what, long got, long want) {
+        made++;
+        if (got != want) {
+            wrong++;
+            System.out.println(what + " answered " + got + ", due is " + want);
+        }
+    }
+
+    static void dueDouble(String what, double got, double want) {
+        made++;
+        if (got != want) {
+            wrong++;
+            System.out.println(what + " answered " + got + ", due is " + want);
+        }
+    }
+
+    /** The call throws just this exception, and what digest() and mean() tell stays as it was. */
+    static void dueThrow(String what, FivesCourt court, Class<?> kind, Call call) {
+        made++;
+        long digest = court.digest();
+        double mean = court.mean();
+        String got;
+        try {
+            got = "answered " + call.answer();
+        } catch (RuntimeException e) {
+            got = e.getClass() == kind ? "" : "threw " + e.getClass().getName();
+        }
+        if (!got.isEmpty()) {
+            wrong++;
+            System.out.println(what + " " + got + ", due is " + kind.getName());
+        }
+        due(what + ": digest() behind it", court.digest(), digest);
+        dueDouble(what + ": mean() behind it", court.mean(), mean);
+    }
+
+    static void finish(String test) {
+        System.out.println(test + ": " + made + " answers looked at, " + wrong + " not as due");
+        if (wrong != 0) {
+            System.exit(1);
+        }
+    }
+}
