@@ -37,11 +37,14 @@ public final class PromisesTest {
         flightWrongly();
         flightByTheButtress();
         flightBetweenButtressAndFront();
+        flightBehindTheButtress();
         end();
         endOfEachKind();
+        endByTheLedge();
         would();
         wouldWrongly();
         advise();
+        adviseWithoutOne();
         mean();
         digest();
         Check.finish("PromisesTest");
@@ -598,6 +601,21 @@ public final class PromisesTest {
         dueEnd("between buttress and front", court, 3, 26, 2, 2, 3);
     }
 
+    /** Struck at the rows 13 and 15, so that the columns 0 and 1 are reached just behind the buttress. */
+    private static void flightBehindTheButtress() {
+        FivesCourt court = new FivesCourt();
+        court.serve(0, -2, 6);
+        court.strike(14, -2, 0, 9);
+        dueFlight(court, 3, 0, 13, 25, -2, 0, 6, 0, 0, 0);
+        dueFlight(court, 4, 1, 13, 31, 2, 0, 5, 0, 0, 1);
+        court.match(0);
+        court.serve(0, -2, 6);
+        court.strike(15, -2, -1, 9);
+        dueFlight(court, 2, 2, 13, 21, -2, -1, 7, 0, 0, 0);
+        dueFlight(court, 3, 0, 13, 28, -2, 1, 6, 0, 0, 1);
+        dueFlight(court, 4, 1, 14, 34, 2, 1, 5, 0, 0, 2);
+    }
+
     // ---- promise 12
 
     private static void end() {
@@ -660,6 +678,20 @@ public final class PromisesTest {
         dueEnd("struck low", court, 1, 2, 0, 1, 0);
     }
 
+    /** A front touch at 3 is down, and one at 4 is not. */
+    private static void endByTheLedge() {
+        FivesCourt court = new FivesCourt();
+        court.serve(0, -2, 6);
+        court.strike(13, 0, -2, 2);
+        dueEnd("at 3", court, 1, 6, 1, 0, 0);
+        court.match(0);
+        court.serve(0, -2, 6);
+        court.strike(14, 0, -2, 3);
+        Check.due("flight(6, 2)", court.flight(6, 2), 4);
+        dueFlight(court, 7, 6, 0, 1, 0, 2, -4, 1, 0, 0);
+        dueEnd("at 4", court, 3, 13, 1, 2, 0);
+    }
+
     // ---- promise 13
 
     private static void would() {
@@ -714,21 +746,31 @@ public final class PromisesTest {
         court.serve(0, -2, 6);
         Check.due("advise(0) in a rally", court.advise(0), -1);
         Check.due("advise(7) ahead of the front touch", court.advise(7), -1);
-        Check.due("advise(8)", court.advise(8), adviseByTrying(0, 8));
         Check.due("advise(23) behind the end", court.advise(23), -1);
         dueBall("looked ahead", court, 6, 14, 3, 0, -2, 6);
         for (int moments = 8; moments < 23; moments++) {
-            Check.due("advise(" + moments + ")", court.advise(moments), adviseByTrying(0, moments));
+            dueAdvice(moments, 0, -2, 6);
         }
+        // Where the best goes along 2, and where it goes straight ahead.
+        Check.due("advise(15) along 2", dueAdvice(15, 0, -1, 7), 95);
+        Check.due("advise(15) straight ahead", dueAdvice(15, 1, -2, 4), 103);
+    }
+
+    private static int dueAdvice(int moments, int... serve) {
+        FivesCourt court = new FivesCourt();
+        court.serve(serve[0], serve[1], serve[2]);
+        int advice = court.advise(moments);
+        Check.due("advise(" + moments + ")", advice, adviseByTrying(moments, serve));
+        return advice;
     }
 
     /** Plays every stroke in a court of its own, and keeps the shortest that ends dead. */
-    private static int adviseByTrying(int across, int moments) {
+    private static int adviseByTrying(int moments, int... serve) {
         int best = -1;
         int shortest = Integer.MAX_VALUE;
         for (int code = 0; code < 250; code++) {
             FivesCourt court = new FivesCourt();
-            court.serve(across, -2, 6);
+            court.serve(serve[0], serve[1], serve[2]);
             if (court.strike(moments, code / 50 - 2, code / 10 % 5 - 2, code % 10) != 0) {
                 return -1;
             }
@@ -738,6 +780,22 @@ public final class PromisesTest {
             }
         }
         return best;
+    }
+
+    /** By turns struck at the rows 5 and 14 the ball climbs by 45 each time, till every stroke is out. */
+    private static void adviseWithoutOne() {
+        FivesCourt court = new FivesCourt();
+        court.serve(0, -2, 9);
+        for (int stroke = 1; stroke <= 100; stroke++) {
+            Check.due("a climbing stroke", court.strike(10, 0, -2, 9), 0);
+            dueBall("climbing", court, 6, stroke % 2 == 0 ? 14 : 5, 3 + 45 * stroke, 0, -2, 9);
+        }
+        Check.due("advise(10) of a ball too high", court.advise(10), -1);
+        Check.due("would(10, 0, -1, 0) of a ball too high", court.would(10, 0, -1, 0), 2);
+        Check.due("would(10, 0, 0, 0) of a ball too high", court.would(10, 0, 0, 0), 1);
+        // Straight up from 4548 it rises by 45 in 10 moments, and is at 0 or less in the moment 106.
+        court.strike(10, 0, 0, 9);
+        dueEnd("a long fall", court, 1, 106, 0, 1, 0);
     }
 
     // ---- promises 15 and 16

@@ -18,6 +18,7 @@ public final class RandomRunsTest {
     private final CourtModel model = new CourtModel();
     private final int run;
     private int calls = 0;
+    private int longFlights = 0;
 
     private RandomRunsTest(int run) {
         this.run = run;
@@ -64,8 +65,8 @@ public final class RandomRunsTest {
             met[1] += model.overBy >= 0 ? 1 : 0;
             met[2] += model.rally.size() > 8 ? 1 : 0;
             met[3] += model.lets > 0 ? 1 : 0;
-            met[4] += !model.rally.isEmpty() && model.end(1) > 150 ? 1 : 0;
         }
+        met[4] += longFlights;
     }
 
     // ---- the ways to play
@@ -130,11 +131,16 @@ public final class RandomRunsTest {
                 top = moments;
             }
         }
-        if (random.nextInt(25) != 0) {
+        if (random.nextInt(40) != 0) {
+            int best = top;
+            if (random.nextInt(4) == 0) {
+                same("advise(" + best + ")", () -> court.advise(best), () -> model.advise(best));
+            }
             strike(top, random.nextInt(5) - 2, -2, 9);
             return;
         }
-        strike(top, 0, random.nextInt(2), random.nextInt(10));
+        strike(top, 0, 0, random.nextInt(10));
+        longFlights += model.end(1) > 80 ? 1 : 0;
         look();
         leave();
     }
@@ -184,7 +190,8 @@ public final class RandomRunsTest {
         int across = any(-2, 2);
         int along = any(-2, 2);
         int rise = any(0, 9);
-        same("flight(" + moments + ", " + what + ")", () -> court.flight(moments, what), () -> model.flight(moments, what));
+        same("flight(" + moments + ", " + what + ")",
+                () -> court.flight(moments, what), () -> model.flight(moments, what));
         same("end(" + what + ")", () -> court.end(what), () -> model.end(what));
         same("count(" + what + ")", () -> court.count(what), () -> model.count(what));
         same("ball(" + what + ")", () -> court.ball(what), () -> model.ball(what));
