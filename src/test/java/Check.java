@@ -1,3 +1,5 @@
+import java.util.List;
+
 /** Counts the answers that are not as due, and ends a test's run by them. */
 final class Check {
     private static int made = 0;
@@ -26,11 +28,10 @@ final class Check {
         }
     }
 
-    /** The call throws just this exception, and what digest() and mean() tell stays as it was. */
+    /** The call throws just this exception, and all that the court tells stays as it was. */
     static void dueThrow(String what, FivesCourt court, Class<?> kind, Call call) {
         made++;
-        long digest = court.digest();
-        double mean = court.mean();
+        List<String> before = Seen.of(court);
         String got;
         try {
             got = "answered " + call.answer();
@@ -41,8 +42,19 @@ final class Check {
             wrong++;
             System.out.println(what + " " + got + ", due is " + kind.getName());
         }
-        due(what + ": digest() behind it", court.digest(), digest);
-        dueDouble(what + ": mean() behind it", court.mean(), mean);
+        dueSame("behind " + what, Seen.of(court), before);
+    }
+
+    /** Tells the first line that differs. */
+    static void dueSame(String what, List<String> got, List<String> want) {
+        made++;
+        for (int i = 0; i < want.size(); i++) {
+            if (!got.get(i).equals(want.get(i))) {
+                wrong++;
+                System.out.println(what + ": " + got.get(i) + ", due is " + want.get(i));
+                return;
+            }
+        }
     }
 
     static void finish(String test) {

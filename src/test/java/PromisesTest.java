@@ -2,10 +2,7 @@
  * Each promise by runs that were worked out by hand from the document: ordinary
  * calls, the edges that it names, and wrong arguments.
  */
-public final class PromisesTest {
-    private static final Class<?> ARGUMENT = IllegalArgumentException.class;
-    private static final Class<?> STATE = IllegalStateException.class;
-    private static final Class<?> INDEX = IndexOutOfBoundsException.class;
+public final class PromisesTest extends CourtCase {
     private static final int[] NO_WAYS = {-3, 3, Integer.MIN_VALUE, Integer.MAX_VALUE};
     private static final int[] NO_RISES = {-1, 10, Integer.MIN_VALUE, Integer.MAX_VALUE};
 
@@ -48,74 +45,6 @@ public final class PromisesTest {
         mean();
         digest();
         Check.finish("PromisesTest");
-    }
-
-    // ---- helpers
-
-    /** Of the serves (0, -2, 6) ends dead, (0, -2, 0) down and (0, 2, 9) out: by leave() who serves wins or loses. */
-    private static void winServing(FivesCourt court) {
-        int server = court.count(0);
-        Check.due("a serve", court.serve(0, -2, 6), server);
-        Check.due("leave() of a dead serve", court.leave(), 2 + server);
-    }
-
-    private static void loseServing(FivesCourt court) {
-        int server = court.count(0);
-        Check.due("a serve", court.serve(0, -2, 0), server);
-        Check.due("leave() of a serve that is down", court.leave(), 3 - server);
-    }
-
-    private static void serveFor(FivesCourt court, int side) {
-        if (court.count(0) != side) {
-            loseServing(court);
-        }
-    }
-
-    /** Brings both to so many points, the side 1 serving at the end (0 for none at all). */
-    private static void bringBothTo(FivesCourt court, int points) {
-        while (court.told(0, 0) < points || court.told(1, 0) < points) {
-            int side = court.told(0, 0) <= court.told(1, 0) ? 0 : 1;
-            serveFor(court, side);
-            winServing(court);
-        }
-    }
-
-    private static void winGame(FivesCourt court, int side) {
-        int games = court.told(side, 1);
-        serveFor(court, side);
-        for (int i = 0; i < 20 && court.told(side, 1) == games; i++) {
-            winServing(court);
-        }
-    }
-
-    private static void dueBall(String when, FivesCourt court, int... parts) {
-        for (int what = 0; what < parts.length; what++) {
-            Check.due(when + ": ball(" + what + ")", court.ball(what), parts[what]);
-        }
-    }
-
-    private static void dueFlight(FivesCourt court, int moments, int... parts) {
-        for (int what = 0; what < parts.length; what++) {
-            Check.due("flight(" + moments + ", " + what + ")", court.flight(moments, what), parts[what]);
-        }
-    }
-
-    private static void dueEnd(String when, FivesCourt court, int... parts) {
-        for (int what = 0; what < parts.length; what++) {
-            Check.due(when + ": end(" + what + ")", court.end(what), parts[what]);
-        }
-    }
-
-    private static void dueCounts(String when, FivesCourt court, int... counts) {
-        for (int what = 0; what < counts.length; what++) {
-            Check.due(when + ": count(" + what + ")", court.count(what), counts[what]);
-        }
-    }
-
-    private static void dueTold(String when, FivesCourt court, int side, int... tolds) {
-        for (int what = 0; what < tolds.length; what++) {
-            Check.due(when + ": told(" + side + ", " + what + ")", court.told(side, what), tolds[what]);
-        }
     }
 
     // ---- promise 1
