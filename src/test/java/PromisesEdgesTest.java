@@ -665,6 +665,7 @@ public final class PromisesEdgesTest extends CourtCase {
     private static void advise() {
         adviseToServe();
         adviseTheSmallestOfSeveral();
+        adviseTheShortest();
         adviseInARally();
         adviseWithoutOne();
         adviseBehindSixtyMoments();
@@ -708,24 +709,40 @@ public final class PromisesEdgesTest extends CourtCase {
         Check.due("advise(0) in a rally", court.advise(0), -1);
         Check.due("advise(7) just ahead of the front touch", court.advise(7), -1);
         Check.due("advise(8) in the moment of the front touch", court.advise(8) >= 0 ? 1 : 0, 1);
-        Check.due("advise(22) just ahead of the end", court.advise(22), shortestByWould(court, 22));
+        Check.due("advise(22) just ahead of the end", court.advise(22), shortestByPlaying(22, 0, -2, 6));
         Check.due("advise(23) in the moment of the end", court.advise(23), -1);
         Check.due("advise(60) behind the end", court.advise(60), -1);
     }
 
-    private static int shortestByWould(FivesCourt court, int moments) {
+    /** "of those that would end dead the one whose flight is the shortest": the codes at the ends of their ranges too. */
+    private static void adviseTheShortest() {
+        dueAdvice(0, 10, 1, -2, 6);
+        // One moment shorter than the stroke 0 is the stroke 50.
+        dueAdvice(50, 8, -2, -2, 6);
+        dueAdvice(50, 16, -1, -1, 9);
+        // Two along, two across, straight ahead.
+        dueAdvice(95, 15, 0, -1, 7);
+        dueAdvice(202, 27, 0, -2, 4, 11, -2, 1, 9);
+        dueAdvice(100, 15, 1, -2, 9);
+        dueAdvice(103, 15, 1, -2, 4);
+    }
+
+    private static void dueAdvice(int advice, int moments, int... run) {
+        String call = "advise(" + moments + ")";
+        Check.due(call + " by playing", shortestByPlaying(moments, run), advice);
+        Check.due(call, played(run).advise(moments), advice);
+    }
+
+    /** Plays every stroke in a court of its own; the first one of those that are shortest. */
+    private static int shortestByPlaying(int moments, int... run) {
         int best = -1;
         int length = Integer.MAX_VALUE;
         for (int code = 0; code < 250; code++) {
-            int across = code / 50 - 2;
-            int along = code / 10 % 5 - 2;
-            if (court.would(moments, across, along, code % 10) == 3) {
-                FivesCourt tried = inState(1);
-                tried.strike(moments, across, along, code % 10);
-                if (tried.end(1) < length) {
-                    length = tried.end(1);
-                    best = code;
-                }
+            FivesCourt tried = played(run);
+            tried.strike(moments, code / 50 - 2, code / 10 % 5 - 2, code % 10);
+            if (tried.end(0) == 3 && tried.end(1) < length) {
+                length = tried.end(1);
+                best = code;
             }
         }
         return best;
